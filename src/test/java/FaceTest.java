@@ -144,7 +144,7 @@ public final class FaceTest {
                     + "wear 9999 * 9999 * 9999 / (0 - 1) % (cut - cut) + uses;";
             String small = "chambers 2;depths 2;key a 0 0;key b 1 1;lock l 0/1 0/1;room x;room y;"
                     + "door d from x to y lock l;person p in x holds a;person q in y holds b;wear 100;";
-            put(x, random.nextBoolean() ? text : small);
+            Tape.put(x, random.nextBoolean() ? text : small);
             x.plan();
         }
         for (int i = 0; i < 450; i++) {
@@ -172,16 +172,5 @@ public final class FaceTest {
             case 3: return 1 << random.nextInt(32);
             default: return random.nextInt(12) - 3;
         }
-    }
-
-    private static void put(PinPlan x, String text) {
-        for (int i = 0; i < text.length(); i += 20) {
-            int[] w = new int[5];
-            for (int j = 0; j < 20; j++) {
-                w[j / 4] = w[j / 4] << 8 | (i + j < text.length() ? text.charAt(i + j) : 32);
-            }
-            x.feed(w[0], w[1], w[2], w[3], w[4]);
-        }
-        x.end(text.length());
     }
 }

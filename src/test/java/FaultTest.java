@@ -250,19 +250,4 @@ public final class FaultTest {
         bad(2, text + "^" + begin + "a" + rest);
         bad(2, text + "^" + begin);
     }
-
-    /** Puts texts on the tape. */
-    private static final class Tape {
-        static void put(PinPlan x, String text) {
-            for (int i = 0; i < text.length(); i += 20) {
-                int[] w = new int[5];
-                for (int j = 0; j < 20; j++) {
-                    int c = i + j < text.length() ? text.charAt(i + j) & 255 : 32;
-                    w[j / 4] = w[j / 4] << 8 | c;
-                }
-                x.feed(w[0], w[1], w[2], w[3], w[4]);
-            }
-            x.end(text.length());
-        }
-    }
 }

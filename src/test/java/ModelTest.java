@@ -70,15 +70,8 @@ public final class ModelTest {
             if (!same("end(0)", real.end(0), model.end(0))) {
                 return false;
             }
-            byte[] bytes = new byte[(text.length() + 19) / 20 * 20];
-            for (int i = 0; i < text.length(); i++) {
-                bytes[i] = (byte) text.charAt(i);
-            }
-            for (int i = 0; i < bytes.length; i += 20) {
-                int[] w = new int[5];
-                for (int j = 0; j < 20; j++) {
-                    w[j / 4] = w[j / 4] << 8 | bytes[i + j] & 255;
-                }
+            for (int i = 0; i < text.length(); i += 20) {
+                int[] w = Tape.wordsAt(text, i);
                 if (!same("feed", real.feed(w[0], w[1], w[2], w[3], w[4]), model.feed(w))) {
                     return false;
                 }

@@ -33,20 +33,8 @@ public final class PromiseTest {
         due(call, got ? 1 : 0, want ? 1 : 0);
     }
 
-    private static void put(PinPlan x, String text) {
-        for (int i = 0; i < text.length(); i += 20) {
-            int[] w = new int[5];
-            for (int j = 0; j < 20; j++) {
-                w[j / 4] = w[j / 4] << 8 | (i + j < text.length() ? text.charAt(i + j) : 32);
-            }
-            x.feed(w[0], w[1], w[2], w[3], w[4]);
-        }
-        x.end(text.length());
-    }
-
     private static int tell(PinPlan x, String text) {
-        x.end(0);
-        put(x, text);
+        Tape.put(x, text);
         return x.plan();
     }
 
@@ -284,9 +272,26 @@ public final class PromiseTest {
         wears("(2048 * 1024 * 1024 < 0) * 19", "0 1 2", 1);
         wears("(2048 * 1024 * 1024 - 1 > 0) * 19", "0 1 2", 1);
         wears("(2048 * 1024 * 1024 / (0 - 1) < 0) * 19", "0 1 2", 1);
+        // all that a formula may have: each of 28 with six nots ahead of it, within brackets
+        String long28 = "(not not not not not not 1" + " and not not not not not not 1".repeat(27) + ") * 19";
+        wears(long28, "0 1 2", 1);
+        wears(long28.replace("not 1)", "not 0)"), "0 1 2", 0);
         wears("100", "0 2 2", 0);
         wears("100", "1 2 2", 1);
         wears("100", "3 3 3", 0);
+        longest();
+    }
+
+    /** Thirty units with seven nots each, all that a formula may have: 1, or 0 if one of them is another one. */
+    private static void longest() {
+        String formula = "not not not not not not not 0" + " and not not not not not not not 0".repeat(29);
+        String text = "chambers 2;key a 0 0;lock l 0 0;draw 36;wear ";
+        PinPlan x = told(text + formula + ";");
+        due("units", x.about(14), 30);
+        // 36 * 137 + 71 = 5003: 3, and 0 < 1
+        due("worn at once", x.lasts(0, 0), 1);
+        due("not worn", told(text + formula.replaceAll("0$", "1;")).lasts(0, 0), NONE);
+        due("not worn", told(text + formula.replaceFirst("0", "1") + ";").lasts(0, 0), NONE);
     }
 
     /** Whether a use at the seed 30 (181 then: the second chamber of three, 18) wears a key; step 2, depths 4. */
@@ -501,6 +506,13 @@ public final class PromiseTest {
         due("none", x.ghost(0, -1), NONE);
         due("none", x.ghost(0, MAX), NONE);
         due("no lock", x.ghost(3, 0), NONE);
+        PinPlan w = told("chambers 2;depths 3;key a 0 0;key b 0 1;key c 0 2;key d 1 0;key e 1 1;key f 1 2;key g 2 0;"
+                + "key h 2 1;lock l 0/1/2 0/1/2;");
+        due("behind eight keys", w.ghost(0, 0), 8);
+        due("one", w.ghosts(0), 1);
+        w.recut(3, 0);
+        due("in between", w.ghost(0, 0), 3);
+        due("behind", w.ghost(0, 1), 8);
 
         promise = 29;
         due("both", x.common(3, 0), 1);
@@ -698,6 +710,7 @@ public final class PromiseTest {
         due("no what", e.trade(0, 1, -1), NONE);
         due("nobody", e.trade(0, 3, 0), NONE);
         due("nobody", e.trade(-1, 0, 0), NONE);
+        due("nobody", e.trade(0, -1, 0), NONE);
         due("one would come less far", z.trade(0, 1, 0), NONE);
     }
 
