@@ -952,9 +952,16 @@ public final class PinPlan {
         }
 
         int everything() {
+            return everythingBut(0);
+        }
+
+        /** The pattern of all depths in the chambers in which another pattern has none. */
+        int everythingBut(int other) {
             int pattern = 0;
             for (int c = 0; c < chambers; c++) {
-                pattern |= (1 << depths) - 1 << c * MOST_DEPTHS;
+                if (depthsAt(other, c) == 0) {
+                    pattern |= (1 << depths) - 1 << c * MOST_DEPTHS;
+                }
             }
             return pattern;
         }
@@ -2531,16 +2538,20 @@ public final class PinPlan {
 
     /** What must OPEN and what never may. */
     private static final class Rules {
+        private static final int MOST_BARS = MOST_KEYS * MOST_LOCKS;
+
         private final Layout layout;
         private final State state;
         private final Space space;
-        private final int[] pinsByOthers;
+        private final int[] bars;
+        private int barCount;
 
         Rules(Layout layout, State state) {
             this.layout = layout;
             this.state = state;
             space = layout.space;
-            pinsByOthers = new int[MOST_LOCKS];
+            bars = new int[MOST_BARS];
+            barCount = 0;
         }
 
         /** The pattern of a LOCK that is pinned for KEYS. */
@@ -2598,15 +2609,10 @@ public final class PinPlan {
 
         /** RECUT of a KEY; no BITTING if there is none. */
         int keepingCut(int key) {
-            if (strayAnyway(key)) {
-                return 0;
-            }
-            for (int l = 0; l < MOST_LOCKS; l++) {
-                pinsByOthers[l] = pinsFor(layout.mustOf(l) & ~(1 << key));
-            }
+            gatherBars(key);
             int bits = space.least();
             for (int i = 0; i < MOST_BITTINGS && bits != 0; i++) {
-                if (!straysBy(key, bits)) {
+                if (!isBarred(bits)) {
                     return bits;
                 }
                 bits = space.after(bits);
@@ -2614,41 +2620,41 @@ public final class PinPlan {
             return 0;
         }
 
-        /** Whether some other KEY strays at a LOCK for which it does not matter how this one is cut. */
-        private boolean strayAnyway(int key) {
+        private boolean isBarred(int bits) {
+            for (int i = 0; i < barCount && i < MOST_BARS; i++) {
+                if (Space.fitsIn(bits, bars[i])) {
+                    return true;
+                }
+            }
+            return false;
+        }
+
+        /** For each KEY that never may OPEN a LOCK: the BITTINGS of one KEY by which it would be STRAY there. */
+        private void gatherBars(int key) {
+            barCount = 0;
             for (int l = 0; l < layout.locks; l++) {
-                for (int k = 0; k < layout.keys && (layout.mustOf(l) >> key & 1) == 0; k++) {
-                    if (k != key && isStray(k, l)) {
-                        return true;
+                for (int k = 0; k < layout.keys; k++) {
+                    if ((layout.neverOf(l) >> k & 1) != 0) {
+                        addBar(k == key ? lawfulPins(l) : lettingIn(k, l, key));
                     }
                 }
             }
-            return false;
         }
 
-        /** Whether some KEY would stray because this one were cut so. */
-        private boolean straysBy(int key, int bits) {
-            for (int l = 0; l < layout.locks && l < MOST_LOCKS; l++) {
-                boolean never = (layout.neverOf(l) >> key & 1) != 0;
-                boolean must = (layout.mustOf(l) >> key & 1) != 0;
-                if (never && Space.fitsIn(bits, lawfulPins(l))) {
-                    return true;
-                }
-                if (must && letsIn(l, pinsByOthers[l] | bits)) {
-                    return true;
-                }
+        private void addBar(int pattern) {
+            if (pattern != 0 && barCount >= 0 && barCount < MOST_BARS) {
+                bars[barCount] = pattern;
+                barCount++;
             }
-            return false;
         }
 
-        /** Whether a LOCK, pinned so, would let in a KEY that never may. */
-        private boolean letsIn(int lock, int pins) {
-            for (int k = 0; k < layout.keys; k++) {
-                if ((layout.neverOf(lock) >> k & 1) != 0 && Space.fitsIn(state.bits(k), pins)) {
-                    return true;
-                }
+        /** The pattern of how a second KEY can be cut so that the LOCK, pinned by the plan, lets the first one in. */
+        private int lettingIn(int key, int lock, int second) {
+            if ((layout.mustOf(lock) >> second & 1) == 0) {
+                return Space.fitsIn(state.bits(key), lawfulPins(lock)) ? space.everything() : 0;
             }
-            return false;
+            int lacking = state.bits(key) & ~pinsFor(layout.mustOf(lock) & ~(1 << second));
+            return lacking | space.everythingBut(lacking);
         }
 
         /** LEFT OVER of a KEY. */

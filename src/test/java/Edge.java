@@ -194,37 +194,69 @@ final class Edge {
 
     /** What can be asked without doing anything. */
     static String now(PinPlan x) {
+        int[] about = new int[16];
         List<Integer> all = new ArrayList<>();
-        for (int what = 0; what < 16; what++) {
-            all.add(x.about(what));
+        for (int what = 0; what < about.length; what++) {
+            about[what] = x.about(what);
+            all.add(about[what]);
         }
-        for (int l = 0; l < x.about(1); l++) {
+        for (int l = 0; l < about[1]; l++) {
             all.addAll(List.of(x.lock(l, 2), x.lock(l, 3)));
         }
-        for (int d = 0; d < x.about(3); d++) {
+        for (int d = 0; d < about[3]; d++) {
             all.addAll(List.of(x.door(d, 0), x.door(d, 1), x.door(d, 2)));
         }
-        for (int i = 0; i < x.about(15); i++) {
+        for (int i = 0; i < about[15]; i++) {
             all.add(x.lies(i));
         }
-        for (int k = 0; k <= x.about(12) && k <= 12; k++) {
+        for (int k = 0; k <= about[12] && k <= 12; k++) {
             all.add(x.fits(k));
         }
         return acted(x) + all;
     }
 
+    /** Many questions at once, few enough to be asked twice of one object. */
+    static String answers(PinPlan x) {
+        List<Integer> all = new ArrayList<>();
+        for (int k = 0; k < 3; k++) {
+            all.addAll(List.of(x.key(k, 3), x.twin(k), x.keeps(k), x.leftOver(k)));
+            for (int l = 0; l < 3; l++) {
+                all.addAll(List.of(x.filing(k, l, 0), x.filing(k, l, 1), x.lasts(k, l)));
+            }
+        }
+        for (int l = 0; l < 4; l++) {
+            all.addAll(List.of(x.lock(l, 1), x.ghosts(l), x.ghost(l, 0), x.ghost(l, 1), x.odds(l, 0), x.odds(l, 1)));
+            all.addAll(List.of(x.common(1 << l, 0), x.common(1 << l, 1), x.cutFor(0, 1 << l), x.cutFor(1, 1 << l)));
+        }
+        for (int what = 0; what < 3; what++) {
+            all.addAll(List.of(x.master(what), x.broken(what), x.strays(what), x.idle(what)));
+            all.addAll(List.of(x.together(what), x.comers(what), x.person(what, 2), x.bunch(0, what, 1)));
+            all.addAll(List.of(x.sure(what, 0), x.law(what), x.bitting(5 * what), x.rank(5 * what)));
+        }
+        for (int n = 0; n < 12; n++) {
+            all.add(x.book(n));
+        }
+        all.addAll(List.of(x.blanks(), x.stuck(), x.barred(), x.haunted(), x.best(), x.fits(0), x.ask(0, 0), x.ask(1, 0)));
+        all.addAll(List.of(x.legal(), x.sure(4, 0)));
+        return all.toString();
+    }
+
     /** What ACTS change. */
     static String acted(PinPlan x) {
+        int keys = x.about(0);
+        int locks = x.about(1);
+        int people = x.about(4);
+        int chambers = x.about(5);
         List<Integer> all = new ArrayList<>();
-        for (int k = 0; k < x.about(0); k++) {
+        for (int k = 0; k < keys; k++) {
             all.addAll(List.of(x.key(k, 0), x.key(k, 1), x.key(k, 2)));
         }
-        for (int l = 0; l < x.about(1); l++) {
-            for (int c = 0; c < x.about(5); c++) {
+        for (int l = 0; l < locks; l++) {
+            for (int c = 0; c < chambers; c++) {
                 all.add(x.parts(l, c));
             }
         }
-        for (int p = 0; p < x.about(4); p++) {
+        for (int p = 0; p < people; p++) {
             all.add(x.person(p, 0));
         }
         all.add(x.about(8));

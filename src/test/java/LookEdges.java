@@ -90,6 +90,8 @@ final class LookEdges {
         PinPlan v = Edge.told("chambers 2;depths 3;step 2;lock a 2 2;lock b 1 0;lock c 2 0;lock d 0/1 1/2;");
         // each of 01, 02, 10, 11, 12, 20, 22 opens one
         Edge.due("the least", v.master(0), 1);
+        PinPlan u = Edge.told("chambers 2;depths 3;step 2;lock d 0/1 1/2;lock c 2 0;lock b 1 0;lock a 2 2;");
+        Edge.due("the least, of another LOCK", u.master(0) * 10 + u.master(2), 11);
         Edge.due("the least of several", v.cutFor(8, 0), 1);
         Edge.due("the least of several", v.common(8, 1), 1);
         Edge.due("the least that opens none", v.cutFor(0, 15), 0);
@@ -118,6 +120,14 @@ final class LookEdges {
         Edge.due("to the next", x.filing(0, 5, 0) * 1000 + x.filing(0, 5, 1), 1177);
         x.file(0, 2);
         Edge.due("too deep", x.filing(0, 5, 0), NONE);
+        // a CUT that stays 0, ahead and behind
+        PinPlan n = Edge.told("chambers 3;depths 6;key a 0 0 0;lock l 0/1 0/3 0/5;lock m 2 0/1 3;lock o 0 4 0/1;");
+        Edge.due("000", n.filing(0, 0, 0) * 1000 + n.filing(0, 0, 1), 0);
+        Edge.due("203", n.filing(0, 1, 0) * 1000 + n.filing(0, 1, 1), 5075);
+        Edge.due("040", n.filing(0, 2, 0) * 1000 + n.filing(0, 2, 1), 4024);
+        // the first one is so deep that the next can't stay as it is
+        PinPlan d = Edge.told("chambers 2;depths 6;step 1;key a 0 0;lock l 5 1/4;");
+        Edge.due("54", d.filing(0, 0, 0) * 100 + d.filing(0, 0, 1), 934);
         // what is next must go deeper, for the step's sake
         PinPlan y = Edge.told("chambers 2;depths 6;step 1;key a 0 0;lock l 0/2/5 3/4;");
         Edge.due("23", y.filing(0, 0, 0) * 100 + y.filing(0, 0, 1), 515);
@@ -196,6 +206,17 @@ final class LookEdges {
         z.part(1, 0, 0);
         z.part(1, 0, 1);
         Edge.due("m is pinned otherwise", z.keeps(0), 0);
+        // the first KEY at the first LOCK, the last one at the last
+        PinPlan first = Edge.told("chambers 2;depths 2;key a 0 1;key b 0 0;key c 1 1;lock l 0 0;lock m 0 0;must b l;must c l;never a l;");
+        Edge.due("b, with 11: 10", first.keeps(1), 2);
+        Edge.due("c, with 00: 00", first.keeps(2), 0);
+        Edge.due("a can't", first.keeps(0), NONE);
+        PinPlan last = Edge.told("chambers 2;depths 2;key b 0 0;key c 1 1;key a 0 1;lock m 0 0;lock l 0 0;must b l;must c l;never a l;");
+        Edge.due("b, with 11: 10", last.keeps(0), 2);
+        Edge.due("a can't", last.keeps(2), NONE);
+        PinPlan free = Edge.told("chambers 2;depths 2;key a 1 1;key b 0 0;lock l 1 1;lock m 0 0;never a l;");
+        Edge.due("b can't mend what a does at the first LOCK", free.keeps(1), NONE);
+        Edge.due("a can", free.keeps(0), 0);
         // one that nothing is said of may be anything, if none strays
         PinPlan v = Edge.told("chambers 2;depths 2;key a 1 1;");
         Edge.due("the least", v.keeps(0), 0);
@@ -490,6 +511,11 @@ final class LookEdges {
             Edge.due("ghost(0, " + i + ")", y.ghost(0, i), left[i]);
         }
         Edge.due("how many", y.ghosts(0), left.length);
+        // eight KEYS ahead of the only one
+        PinPlan z = Edge.told("chambers 2;depths 3;key a 0 0;key b 0 1;key c 0 2;key d 1 0;key e 1 1;key f 1 2;key g 2 0;"
+                + "key h 2 1;lock l 0/1/2 0/1/2;");
+        Edge.due("behind eight", z.ghost(0, 0), 8);
+        Edge.due("no more", z.ghost(0, 1), NONE);
 
         Edge.says("NONE if there is none such.");
         Edge.due("behind the last one", y.ghost(0, left.length), NONE);

@@ -11,7 +11,7 @@ import java.util.function.Predicate;
 /** Long runs of calls, answered by PinPlan and by a second implementation that only follows the document's words. */
 public final class ModelTest {
     private static final int RUNS = 2500;
-    private static final int CALLS = 500;
+    private static final int CALLS = 420;
     private static int wrong = 0;
 
     public static void main(String[] args) {

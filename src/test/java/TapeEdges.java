@@ -153,8 +153,12 @@ final class TapeEdges {
         Edge.due("TRIED", y.about(11), 0);
         Edge.due("untell(1)", y.untell(1), false);
         Edge.due("the next TRIED", y.tried(0, true), 0);
+        Tape.put(y, Edge.FLAT);
+        y.plan();
+        Edge.due("untell(0)", y.untell(0), false);
         Edge.due("what lies there", y.about(15), 0);
         Edge.due("lies(0)", y.lies(0), -2);
+        afterAnother();
         for (int box = 0; box < 3; box++) {
             Edge.due("back(" + box + ")", y.back(box), NONE);
         }
@@ -177,6 +181,27 @@ final class TapeEdges {
             Tape.put(z, text.toString());
             Edge.due("plan()", z.plan(), n);
             Edge.due("KEYS", z.about(0), n);
+        }
+    }
+
+    /** Whatever was told and asked ahead of a text, all is as in a new object. */
+    private static void afterAnother() {
+        String small = "chambers 2;depths 3;step 1;";
+        String lock = "lock l 0/1 0/2;";
+        String[] texts = {"", small, "chambers 3;depths 3;step 1;", "chambers 2;depths 4;step 1;", "chambers 2;depths 3;step 2;",
+            small + lock, "chambers 2;depths 4;step 1;" + lock, "chambers 2;depths 3;step 2;" + lock,
+            small + lock + "lock m 1/2 1/2;", Edge.FLAT,
+            "key a 0 1 2 3 4;key b 5 4 3 2 1;lock l 0/1/2 1/2/3 2/3/4 0/3 4;lock m 5 4 3 2 1;must a l;never b m;wear uses + 30;",
+            "chambers 2;step 1;key a 0 0;key b 1 1;lock l 0/2/5 3/4;lock m 0 0/1;must a l;never b l;wear 100;",
+            "chambers 2;step 1;key a 0 0;key b 1 1;lock l 0/2/5 3/4;lock m 0 0/1;must b l;never a l;"};
+        for (String first : texts) {
+            for (String second : texts) {
+                PinPlan x = Edge.told(first);
+                Edge.answers(x);
+                Tape.put(x, second);
+                x.plan();
+                Edge.due(second + " behind " + first, Edge.answers(x).equals(Edge.answers(Edge.told(second))), true);
+            }
         }
     }
 

@@ -219,6 +219,12 @@ final class TextEdges {
         Edge.bad(1, "chambers ^2z;");
         Edge.bad(1, "chambers 2^`;");
         Edge.bad(1, "chambers 2^A;");
+        // what lay behind the end of the TAPE is not of the text
+        PinPlan x = new PinPlan();
+        Tape.put(x, "draw 3x;");
+        x.end(6);
+        x.plan();
+        Edge.due("FAULT behind draw 3", x.fault(0) * 100 + x.fault(1), 206);
         Edge.bad(2, "chambers 2 ^a;");
         Edge.bad(2, "chambers 2\n^a;");
     }
@@ -285,6 +291,13 @@ final class TextEdges {
             Edge.due(word + " in the next text", x.plan(), 0);
         }
         Edge.good("step 1;chambers 2;depths 3;");
+        // other lines between do not matter
+        String[] once = {"chambers 3;", "depths 3;", "step 3;", "wear 1;", "draw 1;"};
+        String all = String.join("", once);
+        for (String line : once) {
+            Edge.bad(2, all + "^" + line);
+            Edge.bad(2, line + all.replace(line, "") + "^" + line);
+        }
 
         Edge.says("ahead of the first key and the first lock.");
         for (String word : new String[] {"chambers", "depths", "step"}) {
@@ -510,6 +523,13 @@ final class TextEdges {
         Edge.due("in the next text", x.plan(), 0);
         Edge.due("SEED, not told any more", x.about(8), 0);
         Edge.due("units, not told any more", x.about(14), 0);
+        Tape.put(x, "chambers 2;key a 0 0;lock l 0 0;wear 100;");
+        x.plan();
+        Edge.due("it wears", x.lasts(0, 0), 1);
+        Tape.put(x, "chambers 2;key a 0 0;lock l 0 0;");
+        x.plan();
+        Edge.due("it does not wear any more", x.lasts(0, 0), NONE);
+        x.plan();
         Tape.put(x, "wear 1;draw 5;");
         Edge.due("in the next text", x.plan(), 0);
     }
@@ -553,6 +573,12 @@ final class TextEdges {
         Edge.bad(2, "wear not (not (not (not ^(cut))));");
         Edge.good("wear (not (not (not (cut < uses))));");
         Edge.bad(2, "wear (not (not (not (^not cut))));");
+        // all at once: thirty units with seven nots each
+        String nots = Edge.repeated("not ", 7);
+        String longest = nots + "0" + Edge.repeated(" and " + nots + "0", 29);
+        worth(longest, true);
+        worth(longest.substring(0, longest.length() - 1) + "1", false);
+        worth(longest.replaceFirst("0", "1"), false);
         // behind a bracket, or a one behind not, that has ended, there is room again
         String deep = Edge.repeated("(", 7) + "1" + Edge.repeated(")", 7);
         Edge.good("wear " + deep + "+" + deep + "+" + deep + ";");
@@ -657,6 +683,14 @@ final class TextEdges {
         Edge.bad(3, THINGS + "person p in x;person ^p in x;");
         Edge.good(THINGS + "key l 0 0;lock a 0 0;room a;door a from x to y lock l;person a in x;");
         Edge.good(THINGS + "key aa 0 0;key ab 0 0;key ba 0 0;");
+        // each sort has its own, whatever was told since
+        String all = SMALL + "key n 0 0;lock n 0 0;room n;room o;door n from n to o lock n;person n in n;key o 0 0;lock o 0 0;"
+                + "door o from n to o lock o;person o in o;";
+        String[] second = {"key ^n 0 0;", "lock ^n 0 0;", "room ^n;", "door ^n from n to o lock n;", "person ^n in n;",
+            "key ^o 0 0;", "lock ^o 0 0;", "room ^o;", "door ^o from n to o lock n;", "person ^o in n;"};
+        for (String line : second) {
+            Edge.bad(3, all + line);
+        }
 
         Edge.says("a depth told already in that part,");
         Edge.bad(3, SMALL + "lock a 2/^2 0;");

@@ -140,6 +140,60 @@ final class TryEdges {
         PinPlan z = Edge.told("chambers 2;depths 2;lock l 0 0/1;");
         z.tried(0, true);
         Edge.due("a CUT of 0", z.sure(0, 0), 0);
+        // none of the LOCKS: 10 is left
+        PinPlan w = Edge.told("chambers 2;depths 2;lock l 0 0/1;lock m 1 1;");
+        w.tried(0, false);
+        w.tried(1, false);
+        Edge.due("10 alone", w.sure(0, 0) * 10 + w.sure(1, 0), 10);
+        oneByOne("chambers 3;depths 4;step 2;lock a 0/1 1 2/0;lock b 1 1/2 0;lock c 3/1 2/1 1/3/0;", 3, 4, 2);
+        oneByOne("chambers 5;depths 3;step 1;lock a 0/1 1 2/0 0/1/2 1/2;lock b 1/2 1/2 0/1 1 2/1;lock c 1 0/1/2 1/2 1/2 2;", 5, 3, 1);
+        oneByOne("chambers 4;depths 6;step 5;lock a 5 0/1/2/3/4/5 0/3 1/2;lock b 5/0 5/4 3/1 1;lock c 2/5 4 0/1/2/3/4 5/1;", 4, 6, 5);
+    }
+
+    /** FITS and SURE by looking at each BITTING, for all that can be known of three LOCKS: 0 no, 1 yes, 2 not tried. */
+    private static void oneByOne(String text, int chambers, int depths, int step) {
+        for (int known = 0; known < 27; known++) {
+            PinPlan x = Edge.told(text);
+            int[] wants = {known % 3, known / 3 % 3, known / 9};
+            for (int l = 0; l < 3; l++) {
+                if (wants[l] < 2) {
+                    x.tried(l, wants[l] == 1);
+                }
+            }
+            int[] parts = new int[3 * chambers];
+            for (int i = 0; i < parts.length; i++) {
+                parts[i] = x.parts(i / chambers, i % chambers);
+            }
+            int count = 0;
+            int[] met = new int[chambers];
+            for (int number = 0; number < Edge.power(depths, chambers); number++) {
+                int[] cuts = Edge.digits(number, chambers, depths);
+                if (Edge.legal(cuts, step) && isSo(parts, cuts, wants)) {
+                    count++;
+                    for (int c = 0; c < chambers; c++) {
+                        met[c] |= 1 << cuts[c];
+                    }
+                }
+            }
+            Edge.due("fits(0) by " + known + " of " + text, x.fits(0), count);
+            for (int c = 0; c < chambers; c++) {
+                int same = Integer.bitCount(met[c]) == 1 ? Integer.numberOfTrailingZeros(met[c]) : -2;
+                Edge.due("sure(" + c + ", 0) by " + known + " of " + text, x.sure(c, 0), count == 0 ? NONE : same);
+            }
+        }
+    }
+
+    private static boolean isSo(int[] parts, int[] cuts, int[] wants) {
+        for (int l = 0; l < wants.length; l++) {
+            boolean opens = true;
+            for (int c = 0; c < cuts.length && wants[l] < 2; c++) {
+                opens &= (parts[l * cuts.length + c] >> cuts[c] & 1) != 0;
+            }
+            if (wants[l] < 2 && opens != (wants[l] == 1)) {
+                return false;
+            }
+        }
+        return true;
     }
 
     private static void askTerms() {

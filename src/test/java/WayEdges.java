@@ -218,6 +218,20 @@ final class WayEdges {
         Edge.due("q: t, u, v", y.together(1), 28);
         Edge.due("x: t, u, v", y.together(2), 28);
         Edge.due("y: t, u, v", y.together(3), 28);
+        // each has what the other one needs, but they do not meet
+        PinPlan w = Edge.told(LOCKS + "door a from r to s lock k;door b from t to u lock l;person p in r holds l;person q in t holds k;");
+        Edge.due("they do not meet", w.together(0) * 100 + w.together(1), 104);
+        // x and y meet at first; then q meets x; then p, who has nothing, is met by q
+        PinPlan v = Edge.told(LOCKS + doors + "person p in r;person q in t holds l;person x in v holds o;person y in v holds k n;");
+        Edge.due("alone", v.person(0, 2) * 1000000 + v.person(1, 2) * 10000 + v.person(2, 2) * 100 + v.person(3, 2), 1062416);
+        for (int p = 0; p < 4; p++) {
+            Edge.due("all, in the end", v.together(p), 31);
+        }
+        // the same, numbered the other way round
+        PinPlan u = Edge.told(LOCKS + doors + "person y in v holds k n;person x in v holds o;person q in t holds l;person p in r;");
+        for (int p = 0; p < 4; p++) {
+            Edge.due("all, in the end", u.together(p), 31);
+        }
         // two in one ROOM who hold nothing
         PinPlan z = Edge.told(LOCKS + doors + "person p in r;person q in r;person x in s holds k;");
         Edge.due("x comes to r", z.together(0) * 100 + z.together(1), 303);
@@ -256,6 +270,7 @@ final class WayEdges {
         Edge.due("neither would come farther", v.trade(0, 1, 0), NONE);
         v.give(0, 0);
         Edge.due("p, who opens k, by f; q by a, but p loses it", v.trade(0, 1, 0), NONE);
+        Edge.due("and the other way", v.trade(1, 0, 0), NONE);
         v.give(3, 0);
         Edge.due("p has d still", v.trade(0, 1, 0) * 10 + v.trade(0, 1, 1), 5);
     }
@@ -492,6 +507,13 @@ final class WayEdges {
         for (int what : Edge.beside(0, 1)) {
             Edge.due("trade(0, 1, " + what + ")", x.trade(0, 1, what), NONE);
         }
+        // the HOOK, and who has LOST ones, are none to trade with
+        PinPlan y = Edge.told(LOCKS + "door a from r to s lock k;door b from t to u lock l;person p in t holds k;");
+        Edge.due("with the HOOK", y.trade(0, -1, 0), NONE);
+        Edge.due("with the HOOK", y.trade(-1, 0, 0), NONE);
+        y.lose(1);
+        Edge.due("with nobody", y.trade(0, -2, 0), NONE);
+        Edge.due("with nobody", y.trade(-2, 0, 0), NONE);
     }
 
     // ---- keys beside keys
@@ -553,6 +575,11 @@ final class WayEdges {
         Edge.due("the last one", small.book(2), 8);
         Edge.due("behind it", small.book(3), NONE);
         Edge.due("far behind it", small.book(59), NONE);
+        // what an earlier text had there is not there any more
+        x.book(59);
+        Tape.put(x, "chambers 2;depths 3;");
+        x.plan();
+        Edge.due("behind the last one", x.book(3), NONE);
     }
 
     /** A KEY that wears at the USE of this number (0 ..), and not ahead of it. */
