@@ -217,6 +217,18 @@ final class LookEdges {
         PinPlan free = Edge.told("chambers 2;depths 2;key a 1 1;key b 0 0;lock l 1 1;lock m 0 0;never a l;");
         Edge.due("b can't mend what a does at the first LOCK", free.keeps(1), NONE);
         Edge.due("a can", free.keeps(0), 0);
+        // many never may, and the last one of them at the last LOCK counts, too: 00 would let it in
+        StringBuilder many = new StringBuilder("chambers 2;key a 5 5;key b 0 0;");
+        for (int i = 0; i < 6; i++) {
+            many.append("key ").append((char) ('c' + i)).append(" 1 ").append(i).append(";lock ").append((char) ('k' + i));
+            many.append(" 5 5;");
+        }
+        for (int i = 0; i < 36; i++) {
+            char lock = (char) ('k' + i / 6);
+            many.append(i % 6 == 0 ? "must a " + lock + ";" : "");
+            many.append(i < 30 ? "never " + (char) ('c' + i % 6) + " " + lock + ";" : i == 30 ? "never b " + lock + ";" : "");
+        }
+        Edge.due("a", Edge.told(many.toString()).keeps(0), 1);
         // one that nothing is said of may be anything, if none strays
         PinPlan v = Edge.told("chambers 2;depths 2;key a 1 1;");
         Edge.due("the least", v.keeps(0), 0);

@@ -190,7 +190,7 @@ final class TapeEdges {
         String lock = "lock l 0/1 0/2;";
         String[] texts = {"", small, "chambers 3;depths 3;step 1;", "chambers 2;depths 4;step 1;", "chambers 2;depths 3;step 2;",
             small + lock, "chambers 2;depths 4;step 1;" + lock, "chambers 2;depths 3;step 2;" + lock,
-            small + lock + "lock m 1/2 1/2;", Edge.FLAT,
+            small + lock + "lock m 1/2 1/2;", Edge.FLAT, "step 1;key a 0 1 2 3 4;lock l 0/1 1 2/3 3 4/5;",
             "key a 0 1 2 3 4;key b 5 4 3 2 1;lock l 0/1/2 1/2/3 2/3/4 0/3 4;lock m 5 4 3 2 1;must a l;never b m;wear uses + 30;",
             "chambers 2;step 1;key a 0 0;key b 1 1;lock l 0/2/5 3/4;lock m 0 0/1;must a l;never b l;wear 100;",
             "chambers 2;step 1;key a 0 0;key b 1 1;lock l 0/2/5 3/4;lock m 0 0/1;must b l;never a l;"};

@@ -691,6 +691,12 @@ final class TextEdges {
         for (String line : second) {
             Edge.bad(3, all + line);
         }
+        String unlike = SMALL + "key a 0 0;lock b 0 0;room c;room d;door e from c to d lock b;person f in c;";
+        for (String line : new String[] {"key ^a 0 0;", "lock ^b 0 0;", "room ^c;", "room ^d;", "door ^e from c to d lock b;",
+            "person ^f in c;"}) {
+            Edge.bad(3, unlike + line);
+        }
+        Edge.bad(3, unlike + "door g from d to c lock b;person ^f in c;");
 
         Edge.says("a depth told already in that part,");
         Edge.bad(3, SMALL + "lock a 2/^2 0;");
