@@ -207,11 +207,13 @@ final class LookEdges {
         z.part(1, 0, 1);
         Edge.due("m is pinned otherwise", z.keeps(0), 0);
         // the first KEY at the first LOCK, the last one at the last
-        PinPlan first = Edge.told("chambers 2;depths 2;key a 0 1;key b 0 0;key c 1 1;lock l 0 0;lock m 0 0;must b l;must c l;never a l;");
+        PinPlan first = Edge.told("chambers 2;depths 2;key a 0 1;key b 0 0;key c 1 1;lock l 0 0;lock m 0 0;must b l;"
+                + "must c l;never a l;");
         Edge.due("b, with 11: 10", first.keeps(1), 2);
         Edge.due("c, with 00: 00", first.keeps(2), 0);
         Edge.due("a can't", first.keeps(0), NONE);
-        PinPlan last = Edge.told("chambers 2;depths 2;key b 0 0;key c 1 1;key a 0 1;lock m 0 0;lock l 0 0;must b l;must c l;never a l;");
+        PinPlan last = Edge.told("chambers 2;depths 2;key b 0 0;key c 1 1;key a 0 1;lock m 0 0;lock l 0 0;must b l;"
+                + "must c l;never a l;");
         Edge.due("b, with 11: 10", last.keeps(0), 2);
         Edge.due("a can't", last.keeps(2), NONE);
         PinPlan free = Edge.told("chambers 2;depths 2;key a 1 1;key b 0 0;lock l 1 1;lock m 0 0;never a l;");

@@ -146,8 +146,10 @@ final class TryEdges {
         w.tried(1, false);
         Edge.due("10 alone", w.sure(0, 0) * 10 + w.sure(1, 0), 10);
         oneByOne("chambers 3;depths 4;step 2;lock a 0/1 1 2/0;lock b 1 1/2 0;lock c 3/1 2/1 1/3/0;", 3, 4, 2);
-        oneByOne("chambers 5;depths 3;step 1;lock a 0/1 1 2/0 0/1/2 1/2;lock b 1/2 1/2 0/1 1 2/1;lock c 1 0/1/2 1/2 1/2 2;", 5, 3, 1);
-        oneByOne("chambers 4;depths 6;step 5;lock a 5 0/1/2/3/4/5 0/3 1/2;lock b 5/0 5/4 3/1 1;lock c 2/5 4 0/1/2/3/4 5/1;", 4, 6, 5);
+        oneByOne("chambers 5;depths 3;step 1;lock a 0/1 1 2/0 0/1/2 1/2;lock b 1/2 1/2 0/1 1 2/1;"
+                + "lock c 1 0/1/2 1/2 1/2 2;", 5, 3, 1);
+        oneByOne("chambers 4;depths 6;step 5;lock a 5 0/1/2/3/4/5 0/3 1/2;lock b 5/0 5/4 3/1 1;"
+                + "lock c 2/5 4 0/1/2/3/4 5/1;", 4, 6, 5);
     }
 
     /** FITS and SURE by looking at each BITTING, for all that can be known of three LOCKS: 0 no, 1 yes, 2 not tried. */

@@ -190,7 +190,8 @@ final class WayEdges {
         x.find(4, 0);
         Edge.due("m again, whoever has it", x.bunch(0, 2, 1), 16);
         // all eight KEYS, of which only the last one opens
-        PinPlan y = Edge.told("chambers 2;depths 3;key a 0 0;key b 0 1;key c 0 2;key d 1 0;key e 1 1;key f 1 2;key g 2 0;key h 2 2;"
+        PinPlan y = Edge.told("chambers 2;depths 3;key a 0 0;key b 0 1;key c 0 2;key d 1 0;key e 1 1;key f 1 2;"
+                + "key g 2 0;key h 2 2;"
                 + "lock l 2 2;room x;room y;door d from y to x lock l;");
         Edge.due("by the eighth", y.bunch(0, 1, 1), 128);
         // five LOCKS of five KEYS
@@ -206,7 +207,8 @@ final class WayEdges {
                 + "and so on, till nothing changes: the REACH of one then.");
         String doors = "door a from r to s lock k;door b from s to t lock l;door c from t to u lock n;door d from u to v lock o;";
         // p comes to s, q is there; with l they come to t, where x is; with n to u, where y is
-        PinPlan x = Edge.told(LOCKS + doors + "person p in r holds k;person q in s holds l;person x in u holds n;person y in v holds o;");
+        PinPlan x = Edge.told(LOCKS + doors + "person p in r holds k;person q in s holds l;person x in u holds n;"
+                + "person y in v holds o;");
         for (int p = 0; p < 4; p++) {
             Edge.due("all come everywhere", x.together(p), 31);
         }
@@ -219,16 +221,19 @@ final class WayEdges {
         Edge.due("x: t, u, v", y.together(2), 28);
         Edge.due("y: t, u, v", y.together(3), 28);
         // each has what the other one needs, but they do not meet
-        PinPlan w = Edge.told(LOCKS + "door a from r to s lock k;door b from t to u lock l;person p in r holds l;person q in t holds k;");
+        PinPlan w = Edge.told(LOCKS + "door a from r to s lock k;door b from t to u lock l;person p in r holds l;"
+                + "person q in t holds k;");
         Edge.due("they do not meet", w.together(0) * 100 + w.together(1), 104);
         // x and y meet at first; then q meets x; then p, who has nothing, is met by q
-        PinPlan v = Edge.told(LOCKS + doors + "person p in r;person q in t holds l;person x in v holds o;person y in v holds k n;");
+        PinPlan v = Edge.told(LOCKS + doors + "person p in r;person q in t holds l;person x in v holds o;"
+                + "person y in v holds k n;");
         Edge.due("alone", v.person(0, 2) * 1000000 + v.person(1, 2) * 10000 + v.person(2, 2) * 100 + v.person(3, 2), 1062416);
         for (int p = 0; p < 4; p++) {
             Edge.due("all, in the end", v.together(p), 31);
         }
         // the same, numbered the other way round
-        PinPlan u = Edge.told(LOCKS + doors + "person y in v holds k n;person x in v holds o;person q in t holds l;person p in r;");
+        PinPlan u = Edge.told(LOCKS + doors + "person y in v holds k n;person x in v holds o;person q in t holds l;"
+                + "person p in r;");
         for (int p = 0; p < 4; p++) {
             Edge.due("all, in the end", u.together(p), 31);
         }
