@@ -1677,7 +1677,7 @@ public final class PinPlan {
                 case Tokens.NEVER:
                     return readRule();
                 case Tokens.WEAR:
-                    return readWear();
+                    return beginOnce() && readEither(0) && expect(';');
                 case Tokens.DRAW:
                     return readOnce(0, MOST_SEED);
                 default:
@@ -1947,10 +1947,6 @@ public final class PinPlan {
             }
             tokens.advance();
             return expect(';');
-        }
-
-        private boolean readWear() {
-            return beginOnce() && readEither(0) && expect(';');
         }
 
         // the depth of these is how many units in brackets and ones behind not are open around
